@@ -322,7 +322,7 @@ public final class LimitTokens {
         }
 
         int byteAt(int i) {
-            return has(i) ? bytes[i] : NONE;
+            return i >= 0 && i < length ? bytes[i] : NONE;
         }
 
         void makeEmpty() {
@@ -330,8 +330,25 @@ public final class LimitTokens {
         }
 
         void push(int b) {
-            if (hasRoomFor(1)) {
+            if (length < bytes.length) {
                 bytes[length] = b;
+                length++;
+            }
+        }
+
+        void pushWord(int word) {
+            if (length <= bytes.length - 4) {
+                bytes[length] = word >>> 24;
+                bytes[length + 1] = word >>> 16 & 255;
+                bytes[length + 2] = word >>> 8 & 255;
+                bytes[length + 3] = word & 255;
+                length += 4;
+            }
+        }
+
+        void pushZeros(int n) {
+            for (int i = 0; i < n && length < bytes.length; i++) {
+                bytes[length] = 0;
                 length++;
             }
         }
@@ -341,22 +358,16 @@ public final class LimitTokens {
         }
 
         void pushPart(Row other, int from, int n) {
-            if (from >= 0 && n >= 0 && n <= other.length - from && hasRoomFor(n)) {
+            if (from >= 0 && n >= 0 && n <= other.length - from && n <= bytes.length - length) {
                 System.arraycopy(other.bytes, from, bytes, length, n);
                 length += n;
             }
         }
 
-        void pushZeros(int n) {
-            for (int i = 0; i < n; i++) {
-                push(0);
-            }
-        }
-
         void takeOver(Row other) {
             if (other != this) {
-                makeEmpty();
-                pushAll(other);
+                length = 0;
+                pushPart(other, 0, other.length);
             }
         }
 
@@ -510,7 +521,8 @@ public final class LimitTokens {
         /** The row that it comes to is written last, so it may be the key or the message too. */
         void sealInto(Row to, Row key, Row message) {
             if (key.length > BLOCK) {
-                hashInto(keyBlock, key);
+                work.takeOver(key);
+                hashWork(keyBlock);
             } else {
                 keyBlock.takeOver(key);
             }
@@ -558,36 +570,23 @@ public final class LimitTokens {
         }
 
         private void hashWork(Row to) {
-            padWork();
-            System.arraycopy(SQUARE_ROOTS, 0, state, 0, 8);
-            for (int from = 0; from < work.length; from += BLOCK) {
-                mixBlock(from);
-            }
-            to.makeEmpty();
-            for (int i = 0; i < 8; i++) {
-                pushWord(to, state[i]);
-            }
-        }
-
-        private void padWork() {
             int bits = 8 * work.length;
             work.push(128);
             work.pushZeros((2 * BLOCK - 8 - work.length % BLOCK) % BLOCK);
-            pushWord(work, 0);
-            pushWord(work, bits);
-        }
-
-        private static void pushWord(Row to, int word) {
-            for (int shift = 24; shift >= 0; shift -= 8) {
-                to.push(word >>> shift & 255);
+            work.pushWord(0);
+            work.pushWord(bits);
+            System.arraycopy(SQUARE_ROOTS, 0, state, 0, 8);
+            for (int from = 0; from + BLOCK <= work.length; from += BLOCK) {
+                spreadWords(from);
+                mixWords();
+            }
+            to.makeEmpty();
+            for (int i = 0; i < 8; i++) {
+                to.pushWord(state[i]);
             }
         }
 
-        private void mixBlock(int from) {
-            if (from < 0 || from > WORK_MOST - BLOCK) {
-                return;
-            }
-            spreadWords(from);
+        private void mixWords() {
             int a = state[0];
             int b = state[1];
             int c = state[2];
@@ -758,7 +757,7 @@ public final class LimitTokens {
         }
 
         /** Whether no fault was found; what comes of the walk is then in signs[depth]. */
-        boolean walk(int t, Row key, int depth) {
+        private boolean walk(int t, Row key, int depth) {
             Token walked = tokens[t];
             sealer.sealInto(signs[depth], key, walked.name);
             for (int i = 0; i < walked.count; i++) {
