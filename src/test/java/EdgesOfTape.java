@@ -449,7 +449,8 @@ public final class EdgesOfTape extends Sentences {
         }
         byte[][] tapes = {
             sample(), join(name(60), own(1), ending()), join(name(1), ofOthers(60), own(60), own(1), ending()),
-            join(name(1), ending()), join(name(2), own(2), ofOthers(1), ending()), sample(),
+            sample(), join(name(1), ofOthers(1), own(1), ending()), join(name(1), ending()),
+            join(name(2), ofOthers(1), ofOthers(1), ending()), join(name(2), own(2), own(3), ending()),
         };
         for (int later = 1; later < tapes.length; later++) {
             Counted z = new Counted();
@@ -458,7 +459,7 @@ public final class EdgesOfTape extends Sentences {
             z.typeAll(tapes[later]).read(5);
             due("a second one", z.bytesOf(5), tapes[later]);
             z = new Counted();
-            z.typeAll(Arrays.copyOf(tapes[later - 1], tapes[later - 1].length - 1)).read(5);
+            due("a fault", z.typeAll(Arrays.copyOf(tapes[later - 1], tapes[later - 1].length - 1)).read(5), -11);
             z.cut(0);
             z.typeAll(tapes[later]).read(5);
             due("one behind a fault", z.bytesOf(5), tapes[later]);
